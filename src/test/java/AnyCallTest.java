@@ -1,0 +1,138 @@
+import java.util.ArrayList;
+import java.util.List;
+
+/**
+ * Any calls with any arguments: none throws, two objects with the same calls answer the same, and
+ * a refusal changes nothing that can be asked.
+ */
+final class AnyCallTest {
+    private static final Check CHECK = new Check("AnyCallTest");
+    private static final int METHODS = 35;
+    private static final String[] TEXTS = {
+        "a=10;b=6A;c=4+2B;d=8;e=5;0a>b3;2b>c4;1a>d9;4cd>e2;e!;",
+        "a=1;b=2;0b>a1;0a>b1;",
+        "a=99A+99B+99C+99D;b=99A+99A+99A+99A;c=0;d=0A;4ab>c99;4cb>d99;a!;",
+        "a=1;b=2;c=3;d=4;e=5;f=6;g=7;h=8;i=9;j=10;k=11;l=12;0kl>a1;1abc>d2;2d>e3;3e>b4;4de>f5;"
+            + "5f>g6;0g>h7;1h>i8;2i>j9;3>c99;j!;l!;",
+        "a=3;b=1;c=5;d=1;e=4;f=1;g=1A;h=0;i=1;0ace>h1;0>g1;0bdfg>i1;",
+        "",
+        "a=1;b",
+    };
+
+    public static void main(String[] args) {
+        for (int run = 1; run <= 400; run++) {
+            Dice dice = new Dice(run);
+            BufferRoom x = new BufferRoom();
+            BufferRoom twin = new BufferRoom();
+            List<Integer> before = snapshot(x);
+            for (int call = 0; call < 512; call++) {
+                int method = dice.below(METHODS);
+                int[] a = {number(dice), number(dice), number(dice), number(dice), number(dice)};
+                if (method == 1 && dice.once(2)) {
+                    String text = TEXTS[dice.below(TEXTS.length)];
+                    Rooms.take(x, text);
+                    Rooms.take(twin, text);
+                    before = snapshot(x);
+                    continue;
+                }
+                long w = dice.wide();
+                String name = "run " + run + ", call " + call + " of " + method;
+                int answer = answer(x, method, a, w);
+                CHECK.due(name + ": the twin", answer(twin, method, a, w), answer);
+                List<Integer> after = snapshot(x);
+                if (isRefusal(method, answer)) {
+                    CHECK.due(name + ": a refusal changes nothing", after.equals(before) ? 1 : 0, 1);
+                }
+                before = after;
+            }
+        }
+        CHECK.close();
+    }
+
+    private static int number(Dice dice) {
+        int[] edges = {Integer.MIN_VALUE, Integer.MAX_VALUE, -1, -2, 99999, 100000, 400, 401, 40, 41, 99, 100, 999};
+        return dice.once(12) ? edges[dice.below(edges.length)] : dice.below(dice.once(3) ? 14 : 4) - (dice.once(9) ? 1 : 0);
+    }
+
+    private static int answer(BufferRoom x, int method, int[] a, long w) {
+        try {
+            return call(x, method, a, w);
+        } catch (RuntimeException | StackOverflowError e) {
+            CHECK.due("method " + method + " threw " + e, 0, 1);
+            return 0;
+        }
+    }
+
+    private static int call(BufferRoom x, int method, int[] a, long w) {
+        switch (method) {
+            case 0: return x.feed(w, a[0]);
+            case 1: return x.program();
+            case 2: return x.letter(a[0], a[1]);
+            case 3: return x.order(a[0]);
+            case 4: return x.orderTold(a[0]);
+            case 5: return x.load(a[0]);
+            case 6: return x.over(a[0]);
+            case 7: return x.peak(a[0]);
+            case 8: return x.bufferTold(a[0], a[1]);
+            case 9: return x.stepTold(a[0], a[1]);
+            case 10: return x.leastPeak(a[0]);
+            case 11: return x.height(a[0]);
+            case 12: return x.heightAt(a[0]);
+            case 13: return x.lay(a[0], a[1]);
+            case 14: return x.clash();
+            case 15: return x.sendOut(a[0], a[1], a[2]);
+            case 16: return x.outs();
+            case 17: return x.pair(a[0]);
+            case 18: return x.bestPhase(a[0]);
+            case 19: return x.rule(a[0]);
+            case 20: return x.go(a[0]);
+            case 21: return x.compact();
+            case 22: return x.roomTold(a[0], a[1]);
+            case 23: return x.holder(a[0]);
+            case 24: return x.again();
+            case 25: return x.image();
+            case 26: return x.back();
+            case 27: return x.kindTold(a[0], a[1], a[2], a[3]);
+            case 28: return x.count(a[0]);
+            case 29: return x.sheet(a[0], a[1], a[2]);
+            case 30: return x.cell(a[0], a[1], a[2]);
+            case 31: return x.copy(a[0], a[1], a[2], a[3], a[4]);
+            case 32: return x.lays(a[0], a[1], a[2], a[3]);
+            case 33: return x.taken(a[0], a[1], a[2]);
+            default: return x.cell(a[0], a[1], a[2] & 15);
+        }
+    }
+
+    /** Not of program() by a FAULT, and not of lays(), of which some may have come. */
+    private static boolean isRefusal(int method, int answer) {
+        if (method == 1 || method == 32 && answer == -12) {
+            return false;
+        }
+        return answer <= -2 || answer == -1 && method == 2;
+    }
+
+    private static List<Integer> snapshot(BufferRoom x) {
+        List<Integer> told = new ArrayList<>();
+        for (int i = 0; i < 8; i++) {
+            told.add(x.count(i));
+            told.add(x.heightAt(i));
+            told.add(x.peak(i));
+        }
+        for (int i = 0; i < 12; i++) {
+            told.add(x.orderTold(i));
+            told.add(x.load(i));
+            told.add(x.over(i));
+            told.add(x.roomTold(3, i));
+            told.add(x.roomTold(i % 5, 0));
+            for (int what = 0; what < 10; what++) {
+                told.add(x.bufferTold(i, what));
+                told.add(x.stepTold(i, what));
+            }
+            int at = x.lay(i, -1);
+            told.add(at);
+            x.lay(i, at);
+        }
+        told.add(x.outs());
+        return told;
+    }
+}
