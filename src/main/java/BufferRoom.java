@@ -774,22 +774,20 @@ public final class BufferRoom {
             }
             goTo(at + 1);
             int s = into.addStep(ofKind);
-            return readReads(s) && skip('>') && readWrite(s) && readTime(s) && skip(';');
+            readReads(s);
+            return skip('>') && readWrite(s) && readTime(s) && skip(';');
         }
 
-        private boolean readReads(int s) {
+        /** As many as go on so; what stands behind them is to be a > then. */
+        private void readReads(int s) {
             for (int r = 0; r < READS; r++) {
                 int b = bufferHere();
-                if (b < 0) {
-                    return true;
-                }
                 if (!into.has(b) || into.isRead(b, s)) {
-                    return false;
+                    return;
                 }
                 goTo(at + 1);
                 into.addRead(s, b);
             }
-            return true;
         }
 
         private boolean readWrite(int s) {

@@ -56,6 +56,7 @@ final class HostTest {
         Rooms.take(x, "a=1;");
         Rooms.ints(x, 0, 5, 6, 7);
         x.sheet(0, 2, 3);
+        due("all 0", number(x, 0, 2, 0), 0);
         due("all 0", number(x, 0, 2, 1), 0);
         Rooms.ints(x, 0, 5, 6, 7);
         x.sheet(0, 2, 1);

@@ -13,6 +13,7 @@ final class OrderTest {
         buffersTold();
         stepsTold();
         leastPeaks();
+        leastPeaksOfTen();
         CHECK.close();
     }
 
@@ -219,5 +220,33 @@ final class OrderTest {
         due("none", x.leastPeak(-1), 0);
         due("the heap of none", x.leastPeak(-2), 1);
         due("no step", x.leastPeak(0), -5);
+    }
+
+    /** Five great ones, each made small by another step: by numbers all great ones stand at once. */
+    private static void leastPeaksOfTen() {
+        StringBuilder text = new StringBuilder();
+        StringBuilder steps = new StringBuilder();
+        for (int i = 0; i < 5; i++) {
+            text.append((char) ('a' + i)).append("=9A;").append((char) ('f' + i)).append("=1;");
+            steps.append("0>").append((char) ('a' + i)).append("1;");
+        }
+        for (int i = 0; i < 5; i++) {
+            steps.append('0').append((char) ('a' + i)).append('>').append((char) ('f' + i)).append("1;");
+            steps.append((char) ('f' + i)).append("!;");
+        }
+        BufferRoom x = Rooms.with(text.append(steps).toString());
+        due("by numbers", x.peak(0), 46);
+        due("heaps", x.leastPeak(-2), 1024);
+        due("least", x.leastPeak(-1), 14);
+        int[] want = {0, 5, 1, 6, 2, 7, 3, 8, 4, 9};
+        for (int k = 0; k < 10; k++) {
+            due("least at " + k, x.leastPeak(k), want[k]);
+        }
+        // of no cells all orders are alike
+        x.letter(0, 0);
+        due("least", x.leastPeak(-1), 5);
+        for (int k = 0; k < 10; k++) {
+            due("the first at " + k, x.leastPeak(k), k);
+        }
     }
 }

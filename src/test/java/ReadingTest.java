@@ -6,6 +6,7 @@ final class ReadingTest {
         newObject();
         feeding();
         programs();
+        programsBehind();
         faults();
         mostOfAll();
         letters();
@@ -93,6 +94,30 @@ final class ReadingTest {
         due("00+00A", x.bufferTold(1, 0), 0);
         due("wanted ahead of its writer", Rooms.take(x, "a=1;a!;0>a0;"), 1);
         due("wanted", x.bufferTold(0, 2), 1);
+    }
+
+    /** Nothing of a program ahead shines through, whichever it was. */
+    private static void programsBehind() {
+        BufferRoom x = new BufferRoom();
+        for (int turn = 0; turn < 3; turn++) {
+            Rooms.take(x, "a=1+2+3;b=2A;c=3;d=4;0a>d1;1abd>c2;2c>b3;a!;b!;");
+            due("wanted", x.bufferTold(1, 2), 1);
+            for (int again = 0; again <= turn; again++) {
+                due("one step", Rooms.take(x, "b=7;a=3;0b>a1;"), 1);
+                due("terms", x.taken(1, 0, 6), 1);
+                due("size", x.bufferTold(1, 0), 7);
+                due("not wanted", x.bufferTold(1, 2), 0);
+                due("not written", x.bufferTold(1, 1), -1);
+                due("alive from", x.bufferTold(1, 3), 0);
+                due("alive till", x.bufferTold(1, 4), 0);
+                due("written", x.bufferTold(0, 1), 0);
+                due("no such", x.bufferTold(2, 0), -5);
+                due("reads", x.stepTold(0, 3), 1);
+                due("read", x.stepTold(0, 6), 1);
+                due("load", x.load(0), 10);
+                due("least peak", x.leastPeak(-1), 10);
+            }
+        }
     }
 
     private static void fault(String text, int place) {
