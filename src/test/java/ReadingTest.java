@@ -100,7 +100,7 @@ final class ReadingTest {
     private static void programsBehind() {
         BufferRoom x = new BufferRoom();
         for (int turn = 0; turn < 3; turn++) {
-            Rooms.take(x, "a=1+2+3;b=2A;c=3;d=4;0a>d1;1abd>c2;2c>b3;a!;b!;");
+            Rooms.take(x, "a=1+2+3;b=2A;c=3;d=4;0a>d1;1ad>c2;2c>b3;a!;b!;");
             due("wanted", x.bufferTold(1, 2), 1);
             for (int again = 0; again <= turn; again++) {
                 due("one step", Rooms.take(x, "b=7;a=3;0b>a1;"), 1);
@@ -189,6 +189,28 @@ final class ReadingTest {
         fault(text + "0>k1;", text.length());
         due("ten steps, and wanted", Rooms.take(new BufferRoom(), text + "k!;l!;"), 10);
         fault(text + "m=1;", text.length());
+        text.setLength(0);
+        for (char b = 'a'; b <= 'l'; b++) {
+            text.append(b).append("=99A+98B+97C+96D;");
+        }
+        text.append("0>a1;0>b1;0>c1;0>d1;");
+        BufferRoom x = new BufferRoom();
+        due("236 bytes", Rooms.feed(x, text.toString()), 236);
+        due("240 bytes", Rooms.feed(x, "0>e"), 239);
+        due("240 bytes", x.feed('1', 1), 240);
+        due("too early", x.program(), -100 - 240);
+        Rooms.feed(x, text.toString());
+        due("239 bytes", Rooms.feed(x, "l!;"), 239);
+        due("240 bytes", x.feed('k', 1), 240);
+        due("too early", x.program(), -100 - 240);
+        text.setLength(231);
+        Rooms.feed(x, text.toString());
+        due("240 bytes", Rooms.feed(x, "a!;b!;l!;"), 240);
+        due("all 240", x.program(), 3);
+        due("the last", x.bufferTold(11, 2), 1);
+        // what an earlier text left behind a shorter one is not of it
+        due("a part of it", Rooms.take(x, "a=99"), -104);
+        due("a part of it", Rooms.take(x, "a"), -101);
     }
 
     private static void letters() {
