@@ -1,13 +1,17 @@
-import java.util.ArrayList;
 import java.util.List;
 
 /**
- * Any calls with any arguments: none throws, two objects with the same calls answer the same, and
- * a refusal changes nothing that can be asked.
+ * Any calls with any arguments: none throws; and a second object, that gets all of them but for the
+ * refused ones, answers the same, as a refused call changes nothing.
  */
 final class AnyCallTest {
     private static final Check CHECK = new Check("AnyCallTest");
+    /** Together with what Probe asks fewer than the 512 calls for which an object is used. */
+    private static final int CALLS = 260;
     private static final int METHODS = 35;
+    private static final int[] EDGES = {
+        Integer.MIN_VALUE, Integer.MAX_VALUE, -1, -2, 99999, 100000, 400, 401, 40, 41, 99, 100, 999,
+    };
     private static final String[] TEXTS = {
         "a=10;b=6A;c=4+2B;d=8;e=5;0a>b3;2b>c4;1a>d9;4cd>e2;e!;",
         "a=1;b=2;0b>a1;0a>b1;",
@@ -20,38 +24,44 @@ final class AnyCallTest {
     };
 
     public static void main(String[] args) {
-        for (int run = 1; run <= 400; run++) {
-            Dice dice = new Dice(run);
-            BufferRoom x = new BufferRoom();
-            BufferRoom twin = new BufferRoom();
-            List<Integer> before = snapshot(x);
-            for (int call = 0; call < 512; call++) {
-                int method = dice.below(METHODS);
-                int[] a = {number(dice), number(dice), number(dice), number(dice), number(dice)};
-                if (method == 1 && dice.once(2)) {
-                    String text = TEXTS[dice.below(TEXTS.length)];
-                    Rooms.take(x, text);
-                    Rooms.take(twin, text);
-                    before = snapshot(x);
-                    continue;
-                }
-                long w = dice.wide();
-                String name = "run " + run + ", call " + call + " of " + method;
-                int answer = answer(x, method, a, w);
-                CHECK.due(name + ": the twin", answer(twin, method, a, w), answer);
-                List<Integer> after = snapshot(x);
-                if (isRefusal(method, answer)) {
-                    CHECK.due(name + ": a refusal changes nothing", after.equals(before) ? 1 : 0, 1);
-                }
-                before = after;
-            }
+        for (int run = 1; run <= 2000; run++) {
+            anyCalls(run, new Dice(run));
         }
         CHECK.close();
     }
 
+    private static void anyCalls(int run, Dice dice) {
+        BufferRoom x = new BufferRoom();
+        BufferRoom twin = new BufferRoom();
+        for (int calls = 0; calls < CALLS; calls++) {
+            int method = dice.below(METHODS);
+            if (method == 1 && dice.once(2)) {
+                String text = TEXTS[dice.below(TEXTS.length)];
+                Rooms.take(x, text);
+                Rooms.take(twin, text);
+                calls += text.length() / 8 + 1;
+                continue;
+            }
+            int[] a = {number(dice), number(dice), number(dice), number(dice), number(dice)};
+            long w = dice.wide();
+            int answer = answer(x, method, a, w);
+            if (!changesNothing(method, answer)) {
+                CHECK.due("run " + run + ", a call of " + method + ": the twin", answer(twin, method, a, w), answer);
+            }
+        }
+        List<Integer> told = Probe.all(x);
+        List<Integer> twinTold = Probe.all(twin);
+        CHECK.due("run " + run + ": the twin tells as much", twinTold.size(), told.size());
+        for (int i = 0; i < told.size() && i < twinTold.size(); i++) {
+            CHECK.due("run " + run + ": the twin tells " + i, twinTold.get(i), told.get(i));
+        }
+    }
+
     private static int number(Dice dice) {
-        int[] edges = {Integer.MIN_VALUE, Integer.MAX_VALUE, -1, -2, 99999, 100000, 400, 401, 40, 41, 99, 100, 999};
-        return dice.once(12) ? edges[dice.below(edges.length)] : dice.below(dice.once(3) ? 14 : 4) - (dice.once(9) ? 1 : 0);
+        if (dice.once(12)) {
+            return EDGES[dice.below(EDGES.length)];
+        }
+        return dice.below(dice.once(3) ? 14 : 4) - (dice.once(9) ? 1 : 0);
     }
 
     private static int answer(BufferRoom x, int method, int[] a, long w) {
@@ -103,36 +113,11 @@ final class AnyCallTest {
         }
     }
 
-    /** Not of program() by a FAULT, and not of lays(), of which some may have come. */
-    private static boolean isRefusal(int method, int answer) {
+    /** A refusal, but not of program() (its tape is empty then), nor of lays() (what stood ahead came). */
+    private static boolean changesNothing(int method, int answer) {
         if (method == 1 || method == 32 && answer == -12) {
             return false;
         }
         return answer <= -2 || answer == -1 && method == 2;
-    }
-
-    private static List<Integer> snapshot(BufferRoom x) {
-        List<Integer> told = new ArrayList<>();
-        for (int i = 0; i < 8; i++) {
-            told.add(x.count(i));
-            told.add(x.heightAt(i));
-            told.add(x.peak(i));
-        }
-        for (int i = 0; i < 12; i++) {
-            told.add(x.orderTold(i));
-            told.add(x.load(i));
-            told.add(x.over(i));
-            told.add(x.roomTold(3, i));
-            told.add(x.roomTold(i % 5, 0));
-            for (int what = 0; what < 10; what++) {
-                told.add(x.bufferTold(i, what));
-                told.add(x.stepTold(i, what));
-            }
-            int at = x.lay(i, -1);
-            told.add(at);
-            x.lay(i, at);
-        }
-        told.add(x.outs());
-        return told;
     }
 }

@@ -12,7 +12,7 @@ final class ModelTest {
         for (run = 0; run < 1500; run++) {
             programs(new Dice(run + 100001));
         }
-        for (run = 0; run < 1500; run++) {
+        for (run = 0; run < 4000; run++) {
             walks(new Dice(run + 200001));
         }
         CHECK.close();
@@ -251,7 +251,8 @@ final class ModelTest {
         }
         Model kept = null;
         StringBuilder calls = new StringBuilder(m.text());
-        for (int turn = 0; turn < 25; turn++) {
+        // no more than that, as an object is used for 512 calls
+        for (int turn = 0; turn < 16; turn++) {
             switch (dice.below(8)) {
                 case 0:
                     m.rule = dice.below(3);
@@ -275,7 +276,10 @@ final class ModelTest {
                     }
                     break;
                 case 4:
-                    restart(dice, m, x, calls);
+                    if (restart(dice, m, x, calls)) {
+                        x.image();
+                        kept = keep(m);
+                    }
                     break;
                 default:
                     go(dice, m, x, calls);
@@ -294,9 +298,10 @@ final class ModelTest {
         due(calls.toString(), x.go(n), can ? m.place : -3);
     }
 
-    private static void restart(Dice dice, Model m, BufferRoom x, StringBuilder calls) {
+    /** Whether an ORDER may have been told, by which THE IMAGE ahead is not of these STEPS. */
+    private static boolean restart(Dice dice, Model m, BufferRoom x, StringBuilder calls) {
         if (m.place < m.steps() && dice.once(2)) {
-            return;
+            return false;
         }
         calls.append(" again");
         due(calls.toString(), x.again(), m.place);
@@ -309,9 +314,11 @@ final class ModelTest {
         due(calls.toString(), x.letter(l, worth), m.worth[l]);
         m.worth[l] = worth;
         if (dice.once(2)) {
-            calls.append(" order");
+            calls.append(" order, image");
             tellAnOrder(dice, m, x);
+            return true;
         }
+        return false;
     }
 
     private static Model keep(Model m) {
@@ -339,7 +346,7 @@ final class ModelTest {
             due(calls + ": where " + b + " lies", x.roomTold(3, b), m.at[b]);
         }
         int[] cells = m.cells();
-        for (int c = 0; c < 40; c++) {
+        for (int c : new int[] {0, m.top() / 2, Math.max(0, m.top() - 1), m.top()}) {
             due(calls + ": who holds " + c, x.holder(c), cells[c]);
         }
     }

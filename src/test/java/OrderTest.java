@@ -166,7 +166,6 @@ final class OrderTest {
         x = Rooms.with(ROUND);
         buffer(x, 1, 2, 1, 0, -3, -3);
         due("what 5, round", x.bufferTold(1, 5), -7);
-        due("no such, round", x.bufferTold(5, 3), -5);
     }
 
     private static void stepsTold() {

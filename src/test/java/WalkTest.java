@@ -270,9 +270,5 @@ final class WalkTest {
         due("back", x.back(), 1);
         CHECK.dueAll("a lies", Rooms.lying(x, 3), 0, -1, -1);
         CHECK.dueAll("the order stays", Rooms.orderTold(x), 1, 0, 2);
-        due("on", x.go(1), 2);
-        CHECK.dueAll("a is laid again", Rooms.lying(x, 3), 3, -1, -1);
-        due("high", x.roomTold(1, 0), 6);
-        due("on", x.go(1), 3);
     }
 }
