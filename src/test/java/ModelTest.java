@@ -3,6 +3,8 @@ import java.util.Arrays;
 /** Random programs and random runs of calls, each answer against Model's or Grammar's. */
 final class ModelTest {
     private static final Check CHECK = new Check("ModelTest");
+    private static final String TEN_STEPS = "a=9;b=8;c=7;d=6;e=5;f=4;g=3;h=2;i=1;j=99;k=98;l=97;l!;a!;"
+        + "4k>a5;0a>b5;0>c5;4b>d5;0>e5;0>f5;2ak>g5;0>h5;0>i5;0kl>j5;";
     private static int run;
 
     public static void main(String[] args) {
@@ -120,8 +122,13 @@ final class ModelTest {
         return row;
     }
 
+    /** A room with the PROGRAM; of others ahead of it nothing is to shine through. */
     private static BufferRoom room(Dice dice, Model m) {
         BufferRoom x = new BufferRoom();
+        for (int ahead = dice.below(3); ahead > 0; ahead--) {
+            Rooms.take(x, TEN_STEPS);
+            x.go(dice.below(10) + 1);
+        }
         int answer = Rooms.take(x, m.text());
         due(m.text(), answer, m.steps());
         for (int l = 0; l < 4; l++) {

@@ -5,6 +5,7 @@ final class TermsOfTimeTest {
     public static void main(String[] args) {
         orders();
         ordersOfTen();
+        programsBehind();
         alive();
         over();
         loads();
@@ -71,6 +72,62 @@ final class TermsOfTimeTest {
         due("eleven", Rooms.order(x, 9, 8, 7, 6, 5, 4, 3, 2, 1, 0, 0), -2);
         due("nine", Rooms.order(x, 9, 8, 7, 6, 5, 4, 3, 2, 1), -2);
         due("the last, yet", x.orderTold(9), 0);
+        due("TICKS of all", x.peak(2), 10);
+        due("its peak", x.peak(0), 2);
+        due("a pair", x.pair(0), 4);
+        due("a pair, 9 behind", x.pair(9), 4);
+        due("a pair, 10 behind", x.pair(10), 2);
+        due("best of all", x.bestPhase(400), 10);
+        due("out of 2 cells", Rooms.sendOut(x, 2, 1, 11), 0);
+        due("out of 1 cell", Rooms.sendOut(x, 1, 1, 11), -6);
+        due("height of six", Rooms.height(x, 11, 0, 1, 2, 3, 4), 2);
+        due("the first of the least peak", x.leastPeak(0), 0);
+        due("the last of the least peak", x.leastPeak(9), 9);
+        due("all go", x.go(10), 10);
+        due("high", x.roomTold(1, 0), 2);
+        StringBuilder round = new StringBuilder();
+        for (char b = 'a'; b <= 'j'; b++) {
+            round.append(b).append("=1;");
+        }
+        for (char b = 'a'; b <= 'j'; b++) {
+            round.append("0").append(b == 'j' ? 'a' : (char) (b + 1)).append(">").append(b).append("1;");
+        }
+        due("a round of ten", Rooms.take(x, round.toString()), 10);
+        due("no ORDER", x.peak(0), -3);
+        due("a round of two behind it", Rooms.take(x, "a=1;b=1;0a>b1;0b>a1;"), 2);
+        due("no ORDER", x.peak(0), -3);
+        due("a round of two behind that", Rooms.take(x, "a=1;b=1;0a>b1;0b>a1;"), 2);
+        due("no ORDER", x.peak(0), -3);
+    }
+
+    /** A short PROGRAM behind two long ones answers as if there had been none. */
+    private static void programsBehind() {
+        BufferRoom x = new BufferRoom();
+        for (int ahead = 0; ahead < 2; ahead++) {
+            due("a long one", Rooms.take(x, "a=99;b=99;c=99;d=99;4>a99;4>b99;4>c99;4>d99;"), 4);
+            due("its TICKS", x.peak(2), 4 * 297);
+            due("its pair", x.pair(0), 4 * 99);
+            due("its least peak", x.leastPeak(-1), 198);
+        }
+        due("a short one", Rooms.take(x, "a=2;b=1;0>b3;"), 1);
+        due("its TICKS", x.peak(2), 3);
+        due("its peak", x.peak(0), 1);
+        due("its pair", x.pair(0), 2);
+        due("its pair, 2 behind", x.pair(2), 2);
+        due("its pair, 3 behind", x.pair(3), 1);
+        due("its least peak", x.leastPeak(-1), 1);
+        due("its heaps", x.leastPeak(-2), 2);
+        due("into one cell", Rooms.sendOut(x, 1, 1, 0, 1), 0);
+        due("into none", Rooms.sendOut(x, 0, 1, 0, 1), -6);
+        due("none", Rooms.take(x, ""), 0);
+        due("no TICKS", x.peak(2), 0);
+        due("no pair", x.pair(0), 0);
+        due("into none", Rooms.sendOut(x, 0, 1), 0);
+        for (int ahead = 0; ahead < 2; ahead++) {
+            due("a long one", Rooms.take(x, "a=1;b=1;c=1;d=1;0>a1;0>b1;0>c1;0>d1;"), 4);
+        }
+        due("a round", Rooms.take(x, "a=1;b=1;0b>a1;0a>b1;"), 2);
+        due("no ORDER", x.peak(0), -3);
     }
 
     private static void life(String text, int b, int from, int till) {
