@@ -17,6 +17,9 @@ final class ModelTest {
         for (run = 0; run < 4000; run++) {
             walks(new Dice(run + 200001));
         }
+        for (run = 0; run < 600; run++) {
+            large(new Dice(run + 300001));
+        }
         CHECK.close();
     }
 
@@ -62,8 +65,12 @@ final class ModelTest {
     // ---- programs
 
     private static Model model(Dice dice) {
+        return model(dice, dice.below(8) + 1, 5);
+    }
+
+    private static Model model(Dice dice, int buffers, int mostSteps) {
         Model m = new Model();
-        m.buffers = dice.below(8) + 1;
+        m.buffers = buffers;
         m.numbers = new int[m.buffers][];
         m.letters = new int[m.buffers][];
         m.wanted = new boolean[m.buffers];
@@ -77,7 +84,7 @@ final class ModelTest {
             }
             m.wanted[b] = dice.once(5);
         }
-        steps(dice, m);
+        steps(dice, m, dice.below(Math.min(m.buffers, mostSteps) + 1));
         m.plan = new int[m.buffers];
         m.at = new int[m.buffers];
         Arrays.fill(m.plan, -1);
@@ -85,8 +92,7 @@ final class ModelTest {
         return m;
     }
 
-    private static void steps(Dice dice, Model m) {
-        int steps = dice.below(Math.min(m.buffers, 5) + 1);
+    private static void steps(Dice dice, Model m, int steps) {
         boolean mayTurn = dice.once(3);
         m.kind = new int[steps];
         m.reads = new int[steps][];
@@ -246,6 +252,78 @@ final class ModelTest {
         }
         int most = dice.below(12);
         due(m.text() + " best of " + most, x.bestPhase(most), m.bestPhase(row, most));
+    }
+
+    // ---- up to twelve BUFFERS and ten STEPS
+
+    private static void large(Dice dice) {
+        Model m = model(dice, 9 + dice.below(4), 10);
+        steps(dice, m, 6 + dice.below(Math.min(m.buffers, 10) - 5));
+        if (m.text().length() > 240 || m.order() == null) {
+            return;
+        }
+        BufferRoom x = room(dice, m);
+        told(m, x);
+        times(m, x);
+        anyLeastPeak(m, x);
+        pairs(dice, m, x);
+        int[] row = m.order();
+        for (int b = 0; b < m.buffers; b++) {
+            m.plan[b] = dice.below(400);
+            x.lay(b, m.plan[b]);
+        }
+        due(m.text() + " clash by " + Arrays.toString(m.plan), x.clash(), m.clash(row));
+        int[] sheet = {m.buffers - 1, dice.below(m.buffers), 8, 7};
+        int room = Math.max(0, m.peak(row) - dice.below(20));
+        int[] out = m.sendOut(row, sheet, room, 3);
+        due(m.text() + " out", Rooms.sendOut(x, room, 3, sheet), out == null ? -6 : out[0]);
+        due(m.text() + " outs", x.outs(), out == null ? 0 : out[1]);
+        m.rule = dice.below(3);
+        x.rule(m.rule);
+        for (int k = 0; k < row.length; k++) {
+            m.walk(row);
+            due(m.text() + " go", x.go(1), k + 1);
+        }
+        due(m.text() + " high", x.roomTold(1, 0), m.high);
+        for (int b = 0; b < m.buffers; b++) {
+            due(m.text() + ": where " + b + " lies", x.roomTold(3, b), m.at[b]);
+        }
+    }
+
+    private static void told(Model m, BufferRoom x) {
+        for (int s = 0; s < m.steps(); s++) {
+            int[] want = {m.kind[s], m.ticks(s), m.writes[s], m.reads[s].length, m.scratch(s)};
+            for (int what = 0; what < 5; what++) {
+                due(m.text() + " STEP " + s + ", " + what, x.stepTold(s, what), want[what]);
+            }
+            for (int r = 0; r <= m.reads[s].length; r++) {
+                int read = r < m.reads[s].length ? m.reads[s][r] : -7;
+                due(m.text() + " STEP " + s + " READS", x.stepTold(s, 6 + r), read);
+            }
+            due(m.text() + " STEP " + s + " taken", x.taken(0, s, m.kind[s]), s);
+        }
+        for (int b = 0; b < m.buffers; b++) {
+            due(m.text() + " BUFFER " + b, x.bufferTold(b, 0), m.size(b));
+            due(m.text() + " BUFFER " + b, x.bufferTold(b, 1), m.writer(b));
+            due(m.text() + " BUFFER " + b, x.bufferTold(b, 2), m.wanted[b] ? 1 : 0);
+            due(m.text() + " BUFFER " + b, x.taken(1, b, 6), m.numbers[b].length);
+        }
+        due(m.text() + " one beyond", x.bufferTold(m.buffers, 0), -5);
+    }
+
+    /** An ORDER of that PEAK, which none of some others goes below. */
+    private static void anyLeastPeak(Model m, BufferRoom x) {
+        int[] least = new int[m.steps()];
+        for (int k = 0; k < least.length; k++) {
+            least[k] = x.leastPeak(k);
+        }
+        due(m.text() + " can be", m.canStand(least) ? 1 : 0, 1);
+        due(m.text() + " least peak", x.leastPeak(-1), m.peak(least));
+        due(m.text() + " not above the first ORDER's", Math.max(m.peak(least), m.peak(m.order())), m.peak(m.order()));
+        due(m.text() + " heaps", x.leastPeak(-2), 1 << least.length);
+        if (least.length <= 7) {
+            CHECK.dueAll(m.text() + " least peak", least, m.leastPeakRow());
+        }
     }
 
     // ---- as one goes
