@@ -53,7 +53,7 @@ final class FrameTest {
             keeps(parts, "loads", 34, 0, 30, -1, 31, 1, -5);
             keeps(parts, "least", 34);
             keeps(parts, "heights", 0, 0, 13, 1, 17, 2, -5);
-            keeps(parts, "outs", 2);
+            keeps(parts, "outs", 4);
             keeps(parts, "place", 2);
             keeps(parts, "high", 38);
             keeps(parts, "rule", 2);
@@ -65,6 +65,7 @@ final class FrameTest {
             keeps(parts, "rule of the image", 1);
             keeps(parts, "lying of the image", LYING_IN_IMAGE);
             keeps(parts, "letters of the image", 3, 2, 2, 5);
+            keeps(parts, "sizes of the image", 6, 10, 2, 11, 5);
             keeps(parts, "text", -105, 3, 0);
             keptSheets(parts, spare);
         }
@@ -153,7 +154,7 @@ final class FrameTest {
     private static final String[] ALL_OF_A_PROGRAM = {
         "bytes", "text", "programs", "told", "program", "sizes", "lives", "order", "loads", "least", "plan",
         "place", "high", "lying", "image", "place of the image", "lying of the image", "high of the image",
-        "rule of the image", "letters of the image",
+        "rule of the image", "letters of the image", "sizes of the image",
     };
 
     private static void telling() {
@@ -219,7 +220,7 @@ final class FrameTest {
         changes("again", States::rich, x -> x.again(), 2, "place", "lying", "high");
         changes("again at first", States::rested, x -> x.again(), 0);
         changes("image", States::rich, x -> x.image(), 2, "image", "place of the image", "lying of the image",
-            "high of the image", "rule of the image", "letters of the image");
+            "high of the image", "rule of the image", "letters of the image", "sizes of the image");
         changes("back", States::rich, x -> x.back(), 1, "place", "lying", "high", "rule", "letters", "sizes",
             "loads", "least");
         changes("back twice", () -> backOnce(), x -> x.back(), 1);
@@ -283,12 +284,7 @@ final class FrameTest {
         done.accept(asked);
         BufferRoom twin = state.get();
         done.accept(twin);
-        List<Integer> got = answers(asked);
-        List<Integer> want = answers(twin);
-        CHECK.due(call + ", asked ahead: answers", got.size(), want.size());
-        for (int i = 0; i < got.size() && i < want.size(); i++) {
-            CHECK.due(call + ", asked ahead: answer " + i, got.get(i), want.get(i));
-        }
+        alike(call + ", asked ahead", answers(asked), answers(twin));
     }
 
     /** Fewer than 200 calls; those that find come last, as they change what was found. */
@@ -340,14 +336,7 @@ final class FrameTest {
         for (int turn = 0; turn < 2; turn++) {
             answers(x);
         }
-        List<Integer> last = answers(States.rich());
-        CHECK.due("as many answers", last.size(), first.size());
-        for (int i = 0; i < first.size(); i++) {
-            CHECK.due("answer " + i + " of another room", last.get(i), first.get(i));
-        }
-        for (int call = 0; call < 400; call++) {
-            CHECK.due("the " + call + "th feed", new BufferRoom().feed('a', 1), 1);
-        }
+        alike("of another room", answers(States.rich()), first);
         x = States.rested();
         for (int turn = 0; turn < 60; turn++) {
             CHECK.due("order", x.order(2), 3);
@@ -362,11 +351,29 @@ final class FrameTest {
 
     /** Of two rooms the one does not hear what the other one is told. */
     private static void apart() {
-        BufferRoom x = States.rich();
-        BufferRoom other = States.round();
-        States.full();
-        Probe.same(CHECK, "rich, with others ahead and behind", x, States.rich(), 3);
-        Probe.same(CHECK, "round, with others ahead and behind", other, States.round(), 3);
+        List<Supplier<BufferRoom>> states = List.of(States::rich, States::gone, States::round, States::rested);
+        for (Supplier<BufferRoom> state : states) {
+            for (Supplier<BufferRoom> otherState : states) {
+                List<Integer> alone = answers(state.get());
+                List<Integer> otherAlone = answers(otherState.get());
+                Map<String, List<Integer>> kept = Probe.parts(state.get(), 3);
+                BufferRoom x = state.get();
+                BufferRoom y = state.get();
+                BufferRoom other = otherState.get();
+                alike("first", answers(x), alone);
+                alike("of another one", answers(other), otherAlone);
+                alike("behind another one", answers(x), alone);
+                Probe.parts(otherState.get(), 3);
+                CHECK.due("all that is kept, behind another one", Probe.parts(y, 3).equals(kept) ? 1 : 0, 1);
+            }
+        }
         Probe.same(CHECK, "fresh, with others ahead", States.fresh(), new BufferRoom(), 3);
+    }
+
+    private static void alike(String name, List<Integer> got, List<Integer> want) {
+        CHECK.due(name + ": answers", got.size(), want.size());
+        for (int i = 0; i < got.size() && i < want.size(); i++) {
+            CHECK.due(name + ": answer " + i, got.get(i), want.get(i));
+        }
     }
 }

@@ -18,6 +18,7 @@ final class Probe {
     private final int spare;
     private final Map<String, List<Integer>> parts = new LinkedHashMap<>();
     private List<Integer> part;
+    private final List<Integer> there = new ArrayList<>();
 
     private Probe(BufferRoom x, int spare) {
         this.x = x;
@@ -101,7 +102,6 @@ final class Probe {
             keep(x.stepTold(s, 2));
             keep(x.stepTold(s, 6));
         }
-        List<Integer> there = new ArrayList<>();
         for (int b = 0; b < BUFFERS; b++) {
             if (keep(x.bufferTold(b, 2)) >= 0) {
                 there.add(b);
@@ -168,6 +168,10 @@ final class Probe {
         if (keep(x.back()) >= 0) {
             floor(" of the image");
             letters(" of the image");
+            begin("sizes of the image");
+            for (int b : there) {
+                keep(x.bufferTold(b, 0));
+            }
         }
     }
 

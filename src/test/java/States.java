@@ -72,8 +72,8 @@ final class States {
 
     /** As rich(), but no STEP went. */
     static BufferRoom rested() {
-        BufferRoom x = Rooms.with("b=9;c=1;b!;0>c1;");
-        Rooms.sendOut(x, 1, 5, 1);
+        BufferRoom x = Rooms.with("c=9;b=1;c!;0>b1;");
+        Rooms.sendOut(x, 1, 5, 2);
         Rooms.take(x, RICH);
         letters(x, 3, 2, 2, 5);
         Rooms.ints(x, 2, 1, 0, 2);
