@@ -35,6 +35,7 @@ final class CallsTest {
         kindTold();
         count();
         sheet();
+        sorts();
         cell();
         copy();
         copyPlaces();
@@ -279,6 +280,12 @@ final class CallsTest {
         due("the fourth of four", x.stepTold(2, 9), 3);
         due("the fifth of four", x.stepTold(2, 10), -7);
         due("without an ORDER", States.round().stepTold(1, 6), 0);
+        x = with("a=1;b=1;c=1;d=1;e=1;f=1;0>a1;1>b1;2>c1;3>d1;4>e1;5>f1;");
+        int[] isOver = {0, 0, 1, 0, 1, 1};
+        for (int s = 0; s < 6; s++) {
+            due("OVER of a STEP that READS none, of KIND " + s, x.stepTold(s, 5), isOver[s]);
+            due("none is OVER there", x.over(s), NONE);
+        }
     }
 
     private static void leastPeak() {
@@ -600,6 +607,27 @@ final class CallsTest {
             due("its last is 0 again", x.lay(0, -1), 0);
             due("of 0", x.sheet(1, sort, 0), 1);
             due("none", x.cell(1, 0, 7), -12);
+        }
+    }
+
+    /** What a SHEET tells does not hang on its sort or its number. */
+    private static void sorts() {
+        for (int sort = 0; sort < 3; sort++) {
+            for (int s = 0; s < 4; s++) {
+                String by = ", by SHEET " + s + " of sort " + sort;
+                BufferRoom x = with("a=4;b=3;c=2;0a>c1;1>b1;l=5;l!;");
+                x.sheet(s, sort, 2);
+                x.cell(s, 0, 1);
+                due("order" + by, x.order(s), 2);
+                due("its first" + by, x.orderTold(0), 1);
+                x.cell(s, 1, 11);
+                due("height" + by, x.height(s), 8);
+                due("where l lies" + by, x.heightAt(1), 3);
+                due("sendOut" + by, x.sendOut(s, 7, 4), 3);
+                due("l is OUT" + by, x.outs(), 1 << 11);
+                due("lays" + by, x.lays(s, sort, 0, 1), 1);
+                due("b lies" + by, x.lay(1, -1), 11);
+            }
         }
     }
 

@@ -25,6 +25,7 @@ final class FrameTest {
         hosting();
         withoutOrder();
         often();
+        foundAnew();
         apart();
         CHECK.close();
     }
@@ -146,7 +147,12 @@ final class FrameTest {
     }
 
     private static void asks(String call, Supplier<BufferRoom> state, ToIntFunction<BufferRoom> ask) {
-        Probe.refused(CHECK, call, state, ask, ask.applyAsInt(state.get()));
+        BufferRoom x = state.get();
+        int want = ask.applyAsInt(x);
+        for (int turn = 2; turn < 70; turn++) {
+            CHECK.due(call + " for the " + turn + ". time", ask.applyAsInt(x), want);
+        }
+        Probe.refused(CHECK, call, state, ask, want);
     }
 
     // ---- calls that change what they tell of
@@ -329,15 +335,9 @@ final class FrameTest {
 
     // ---- the same call many times, and two rooms at once
 
-    /** The same answers, how often it ever was asked. */
+    /** The same answers, how often it ever was called. */
     private static void often() {
-        List<Integer> first = answers(States.rich());
-        BufferRoom x = States.rich();
-        for (int turn = 0; turn < 2; turn++) {
-            answers(x);
-        }
-        alike("of another room", answers(States.rich()), first);
-        x = States.rested();
+        BufferRoom x = States.rested();
         for (int turn = 0; turn < 60; turn++) {
             CHECK.due("order", x.order(2), 3);
             CHECK.due("lay", x.lay(1, 5 + turn), turn == 0 ? 99999 : 4 + turn);
@@ -347,6 +347,46 @@ final class FrameTest {
             CHECK.due("again", x.again(), 2);
             CHECK.due("height", x.height(1), 21);
         }
+        x = States.rested();
+        for (int turn = 0; turn < 60; turn++) {
+            CHECK.due("letter", x.letter(3, turn), turn == 0 ? 6 : turn - 1);
+            CHECK.due("rule", x.rule(turn % 3), turn == 0 ? 2 : (turn - 1) % 3);
+            CHECK.due("sendOut", x.sendOut(1, 99999, 1), 0);
+            CHECK.due("sheet", x.sheet(3, 0, 4), 1);
+            CHECK.due("cell", x.cell(3, 1, turn), 1);
+            CHECK.due("lays", x.lays(3, 0, 0, 1), 1);
+            CHECK.due("lay", x.lay(0, -1), turn);
+        }
+        x = States.rich();
+        for (int turn = 0; turn < 60; turn++) {
+            CHECK.due("image", x.image(), 2);
+            CHECK.due("go", x.go(1), 3);
+            CHECK.due("back", x.back(), 2);
+            CHECK.due("copy", x.copy(1, 0, 2, 0, 3), 3);
+        }
+    }
+
+    /** What was found last is told, also of one that was asked for ahead of it. */
+    private static void foundAnew() {
+        BufferRoom x = States.rested();
+        x.cell(2, 0, 3);
+        for (int turn = 0; turn < 3; turn++) {
+            CHECK.due("b, c, a", x.height(1), 21);
+            heights(x, 0, 13, 17);
+            CHECK.due("d, a, c", x.height(2), 17);
+            heights(x, 0, 0, 13);
+            CHECK.due("c is OUT", x.sendOut(1, 31, 2), 4);
+            CHECK.due("c", x.outs(), 4);
+            CHECK.due("none is OUT", x.sendOut(1, 34, 2), 0);
+            CHECK.due("none", x.outs(), 0);
+        }
+    }
+
+    private static void heights(BufferRoom x, int... due) {
+        for (int i = 0; i < due.length; i++) {
+            CHECK.due("heightAt " + i, x.heightAt(i), due[i]);
+        }
+        CHECK.due("none more", x.heightAt(due.length), -5);
     }
 
     /** Of two rooms the one does not hear what the other one is told. */
