@@ -15,6 +15,7 @@ final class GreatestTest {
             copies(sort);
             cells(sort);
             plans(sort);
+            lengths(sort);
         }
         leftOut();
         CHECK.close();
@@ -211,6 +212,20 @@ final class GreatestTest {
             boolean isPlace = due >= -1 && due <= 99999;
             due(v + " of sort " + sort + " is a place", x.lays(0, sort, 0, 1), isPlace ? 1 : 0);
             due(v + " of sort " + sort, x.lay(0, -1), isPlace ? due : -1);
+        }
+    }
+
+    /** Of each length, one after the other. */
+    private static void lengths(int sort) {
+        for (int s = 0; s < 4; s++) {
+            BufferRoom x = new BufferRoom();
+            for (int n = 40; n >= 0; n--) {
+                due("sheet of " + n, x.sheet(s, sort, n), 1);
+                due("the last of " + n, x.cell(s, n - 1, 7), n > 0 ? 1 : -12);
+                due("one more than " + n, x.cell(s, n, 7), -12);
+                due("copy of " + n, x.copy(s, 0, s, 0, n), n);
+                due("copy of one more than " + n, x.copy(s, 0, s, 0, n + 1), -12);
+            }
         }
     }
 

@@ -225,11 +225,15 @@ final class Model {
     int[] height(int[] row, int[] sheet) {
         int[] best = null;
         int n = sheet.length;
+        boolean[][] meet = new boolean[n][n];
+        for (int i = 0; i < n * n; i++) {
+            meet[i / n][i % n] = together(row, sheet[i / n], sheet[i % n]) > 0;
+        }
         for (int[] turns : rows(n)) {
             int[] lies = new int[n + 1];
             boolean[] laid = new boolean[n];
             for (int i : turns) {
-                while (hits(row, sheet, lies, laid, i)) {
+                while (hits(meet[i], sheet, lies, laid, i)) {
                     lies[i]++;
                 }
                 laid[i] = true;
@@ -242,9 +246,9 @@ final class Model {
         return best;
     }
 
-    private boolean hits(int[] row, int[] sheet, int[] lies, boolean[] laid, int i) {
+    private boolean hits(boolean[] meets, int[] sheet, int[] lies, boolean[] laid, int i) {
         for (int j = 0; j < sheet.length; j++) {
-            if (laid[j] && together(row, sheet[i], sheet[j]) > 0
+            if (laid[j] && meets[j]
                 && share(lies[i], size(sheet[i]), lies[j], size(sheet[j]))) {
                 return true;
             }

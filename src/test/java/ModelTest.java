@@ -20,6 +20,8 @@ final class ModelTest {
         for (run = 0; run < 600; run++) {
             large(new Dice(run + 300001));
         }
+        hardHeights();
+        rates();
         CHECK.close();
     }
 
@@ -323,6 +325,82 @@ final class ModelTest {
         due(m.text() + " heaps", x.leastPeak(-2), 1 << least.length);
         if (least.length <= 7) {
             CHECK.dueAll(m.text() + " least peak", least, m.leastPeakRow());
+        }
+    }
+
+    // ---- told ones
+
+    /** A BUFFER for each size; a STEP for each text: what it READS, and the last one that it WRITES. */
+    private static Model told(int[] sizes, String... steps) {
+        Model m = new Model();
+        m.buffers = sizes.length;
+        m.numbers = new int[sizes.length][];
+        m.letters = new int[sizes.length][];
+        for (int b = 0; b < sizes.length; b++) {
+            m.numbers[b] = new int[] {sizes[b]};
+            m.letters[b] = new int[] {-1};
+        }
+        m.wanted = new boolean[sizes.length];
+        m.kind = new int[steps.length];
+        m.time = new int[steps.length];
+        m.reads = new int[steps.length][];
+        m.writes = new int[steps.length];
+        for (int s = 0; s < steps.length; s++) {
+            int[] all = steps[s].chars().map(c -> c - 'a').toArray();
+            m.reads[s] = Arrays.copyOf(all, all.length - 1);
+            m.writes[s] = all[all.length - 1];
+        }
+        return m;
+    }
+
+    /** Of all rows few are the least ones, and by each SHEET they are others. */
+    private static void hardHeights() {
+        Model six = told(new int[] {3, 5, 5, 4, 3, 5, 0, 0, 0, 0},
+            "g", "b", "c", "a", "be", "h", "ed", "f", "i", "adfj");
+        Model five = told(new int[] {3, 4, 2, 3, 4, 0, 0, 0, 0, 0},
+            "f", "g", "a", "e", "h", "ei", "c", "cd", "aj", "db");
+        Model four = told(new int[] {1, 1, 3, 3, 0, 0, 0, 0, 0, 0},
+            "c", "b", "e", "f", "g", "ch", "ba", "ad", "i", "dj");
+        due("six", heights(six, 6, 7), 12);
+        due("five", heights(five, 5, 1), 8);
+        due("four", heights(four, 4, 1), 4);
+    }
+
+    /** By each of so many SHEETS of the first n BUFFERS, one as the other: the same HEIGHT. */
+    private static int heights(Model m, int n, int each) {
+        BufferRoom x = Rooms.with(m.text());
+        int found = 0;
+        for (run = 0; run < Model.rows(n).size(); run += each) {
+            if (run % 30 == 0) {
+                x = Rooms.with(m.text());
+            }
+            int[] sheet = Model.rows(n).get(run);
+            int[] height = m.height(m.order(), sheet);
+            found = Rooms.height(x, sheet);
+            due(m.text() + " height", found, height[n]);
+            for (int i = 0; i < n; i++) {
+                due(m.text() + " height at " + i, x.heightAt(i), height[i]);
+            }
+        }
+        return found;
+    }
+
+    /** Each set of six is the least one by one of the rooms; by each rate others are like. */
+    private static void rates() {
+        Model m = told(new int[] {0, 1, 2, 4, 8, 16, 32}, "a");
+        Arrays.fill(m.wanted, true);
+        int[] sheet = {3, 6, 1, 5, 2, 4};
+        for (run = 1; run < 100; run++) {
+            BufferRoom x = Rooms.with(m.text());
+            Rooms.ints(x, 3, sheet);
+            for (int room = 0; room < 64; room++) {
+                int[] out = m.sendOut(m.order(), sheet, room, run);
+                due("a room of " + room, x.sendOut(3, room, run), out[0]);
+                due("a room of " + room + ", outs", x.outs(), out[1]);
+                if (run == 1) {
+                    due("each set of its own", out[1], (63 - room) * 2);
+                }
+            }
         }
     }
 

@@ -8,6 +8,7 @@ final class TermsOfRoomTest {
         holesOfLikeOnes();
         holesAndNoCells();
         holesAtTheLastLetter();
+        holesOfEachWidth();
         given();
         overThatIsAsGreat();
         overIsTheLeastNumber();
@@ -138,6 +139,49 @@ final class TermsOfRoomTest {
     }
 
     // ---- steps
+
+    /** Three HOLES of A, B, C cells with a cell between, and one of D cells that is to be laid. */
+    private static void holesOfEachWidth() {
+        for (int rule = 0; rule < 3; rule++) {
+            for (int a = 0; a < 12; a++) {
+                for (int b = 0; b < 12; b++) {
+                    holesOfEachWidth(rule, a, b);
+                }
+            }
+        }
+    }
+
+    private static void holesOfEachWidth(int rule, int a, int b) {
+        BufferRoom x = Rooms.with("a=1A;b=1;c=1B;d=1;e=1C;f=1;g=0;h=1D;i=0;b!;d!;f!;0ace>g0;0>h0;0h>i0;");
+        x.rule(rule);
+        x.letter(0, a);
+        x.letter(1, b);
+        for (int c = 0; c < 12; c += 3) {
+            x.letter(2, c);
+            for (int d = 0; d < 14; d++) {
+                x.letter(3, d);
+                x.go(2);
+                String by = "rule " + rule + ", HOLES of " + a + ", " + b + ", " + c + ", one of " + d;
+                due(by, x.roomTold(3, 7), laid(rule, d, a, b, c));
+                x.again();
+            }
+        }
+    }
+
+    private static int laid(int rule, int size, int... widths) {
+        int from = 0;
+        int chosen = -1;
+        int width = 0;
+        for (int hole : widths) {
+            boolean isBetter = chosen < 0 || rule == 1 && hole < width || rule == 2 && hole > width;
+            if (hole > 0 && hole >= size && isBetter) {
+                chosen = from;
+                width = hole;
+            }
+            from += hole + 1;
+        }
+        return chosen < 0 ? from : chosen;
+    }
 
     private static void given() {
         // b is never ALIVE, c is READ at the last place, e is WANTED and never READ, f is WRITTEN
