@@ -1,6 +1,7 @@
 import java.util.ArrayList;
 import java.util.Arrays;
 import java.util.List;
+import java.util.Set;
 
 /**
  * What the document says, in its slowest form: each cell, tick, row and set by itself. Only for
@@ -202,6 +203,42 @@ final class Model {
             }
         }
         return best;
+    }
+
+    /** The first row that begins so and holds no more than that at each place, or null. */
+    int[] rowWithin(int[] ahead, int most, Set<Integer> triedInVain) {
+        if (ahead.length == steps()) {
+            return ahead;
+        }
+        int done = 0;
+        for (int s : ahead) {
+            done |= 1 << s;
+        }
+        for (int s = 0; s < steps() && !triedInVain.contains(done); s++) {
+            int[] longer = Arrays.copyOf(ahead, ahead.length + 1);
+            longer[ahead.length] = s;
+            if (!wrongAt(longer, ahead.length) && load(filledUp(longer), ahead.length) <= most) {
+                int[] found = rowWithin(longer, most, triedInVain);
+                if (found != null) {
+                    return found;
+                }
+            }
+        }
+        triedInVain.add(done);
+        return null;
+    }
+
+    /** The others come behind, in a row that need not be one that can be. */
+    private int[] filledUp(int[] ahead) {
+        int[] row = Arrays.copyOf(ahead, steps());
+        int k = ahead.length;
+        for (int s = 0; s < steps(); s++) {
+            if (!contains(ahead, s)) {
+                row[k] = s;
+                k++;
+            }
+        }
+        return row;
     }
 
     boolean share(int at, int size, int otherAt, int otherSize) {

@@ -1,4 +1,5 @@
 import java.util.Arrays;
+import java.util.HashSet;
 
 /** Random programs and random runs of calls, each answer against Model's or Grammar's. */
 final class ModelTest {
@@ -17,7 +18,7 @@ final class ModelTest {
         for (run = 0; run < 4000; run++) {
             walks(new Dice(run + 200001));
         }
-        for (run = 0; run < 600; run++) {
+        for (run = 0; run < 1500; run++) {
             large(new Dice(run + 300001));
         }
         hardHeights();
@@ -323,8 +324,13 @@ final class ModelTest {
         due(m.text() + " least peak", x.leastPeak(-1), m.peak(least));
         due(m.text() + " not above the first ORDER's", Math.max(m.peak(least), m.peak(m.order())), m.peak(m.order()));
         due(m.text() + " heaps", x.leastPeak(-2), 1 << least.length);
-        if (least.length <= 7) {
+        if (least.length <= 6) {
             CHECK.dueAll(m.text() + " least peak", least, m.leastPeakRow());
+        }
+        if (run % 4 == 0) {
+            int peak = x.leastPeak(-1);
+            CHECK.dueAll(m.text() + " least peak", least, m.rowWithin(new int[0], peak, new HashSet<>()));
+            due(m.text() + " less", m.rowWithin(new int[0], peak - 1, new HashSet<>()) == null ? 1 : 0, 1);
         }
     }
 
