@@ -47,8 +47,18 @@ final class RulesTest {
         for (Method method : BufferRoom.class.getDeclaredMethods()) {
             if (Modifier.isPublic(method.getModifiers())) {
                 open.add(method.getName());
+            } else {
+                CHECK.due("no method but open or private: " + method.getName(),
+                    Modifier.isPrivate(method.getModifiers()) || method.isSynthetic() ? 1 : 0, 1);
             }
         }
+        CHECK.due("one constructor", BufferRoom.class.getConstructors().length, 1);
+        CHECK.due("no other one", BufferRoom.class.getDeclaredConstructors().length, 1);
+        CHECK.due("NONE", BufferRoom.NONE, -1);
+        CHECK.due("BAD", BufferRoom.BAD, -2);
+        CHECK.due("STATE", BufferRoom.STATE, -3);
+        CHECK.due("FULL", BufferRoom.FULL, -4);
+        CHECK.due("NO", BufferRoom.NO, -4611686018427387904L);
         Set<String> due = new TreeSet<>(Arrays.asList(FACE.split(" ")));
         CHECK.due("methods of the face, each once", open.size(), due.size());
         CHECK.due("methods of the face: " + open, new TreeSet<>(open).equals(due) ? 1 : 0, 1);
@@ -76,7 +86,7 @@ final class RulesTest {
         for (Method method : ours.getDeclaredMethods()) {
             String name = ours.getSimpleName() + "." + method.getName();
             CHECK.due(name + ": seven parameters at most", method.getParameterCount() <= 7 ? 1 : 0, 1);
-            if (!Modifier.isPublic(method.getModifiers()) && !method.isSynthetic()) {
+            if (Modifier.isPrivate(method.getModifiers()) && !method.isSynthetic()) {
                 CHECK.due(name + " bears no name of the face", face.contains(method.getName()) ? 1 : 0, 0);
             }
         }
