@@ -23,6 +23,9 @@ final class ModelTest {
         }
         hardHeights();
         rates();
+        for (run = 0; run < 40; run++) {
+            everyPhase(new Dice(run + 400001));
+        }
         CHECK.close();
     }
 
@@ -407,6 +410,31 @@ final class ModelTest {
                     due("each set of its own", out[1], (63 - room) * 2);
                 }
             }
+        }
+    }
+
+    /** Each number of ticks behind, for runs that take from a few ticks to more than are looked at. */
+    private static void everyPhase(Dice dice) {
+        Model m = model(dice, 8, 6);
+        steps(dice, m, 4 + dice.below(3));
+        for (int s = 0; s < m.steps(); s++) {
+            m.time[s] = dice.below(run < 20 ? 100 : 30);
+        }
+        if (m.order() == null || m.text().length() > 240) {
+            return;
+        }
+        BufferRoom x = Rooms.with(m.text());
+        BufferRoom twin = Rooms.with(m.text());
+        int best = 0;
+        int least = 0;
+        for (int phase = 0; phase <= 400; phase++) {
+            int both = m.pair(m.order(), phase);
+            due(m.text() + " pair " + phase, x.pair(phase), both);
+            if (phase == 0 || both < least) {
+                best = phase;
+                least = both;
+            }
+            due(m.text() + " best of " + phase, twin.bestPhase(phase), best);
         }
     }
 
