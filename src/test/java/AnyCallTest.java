@@ -66,7 +66,7 @@ final class AnyCallTest {
         }
     }
 
-    private static int call(BufferRoom x, int method, int[] a, long w) {
+    static int call(BufferRoom x, int method, int[] a, long w) {
         switch (method) {
             case 0: return x.feed(w, a[0]);
             case 1: return x.program();

@@ -70,6 +70,12 @@ final class ModelTest {
 
     // ---- programs
 
+    /** Of a PROGRAM of a few STEPS. */
+    static String text(Dice dice) {
+        String text = model(dice).text();
+        return text.length() > 240 ? "" : text;
+    }
+
     private static Model model(Dice dice) {
         return model(dice, dice.below(8) + 1, 5);
     }
