@@ -195,7 +195,8 @@ final class GreatestTest {
         due(name, x.copy(0, from, other, to, n), n);
         for (int i = 0; i < 40; i++) {
             boolean isIn = i >= to && i < to + n;
-            due(name + ": number " + i, read(x, other, sort, i), isIn ? number(i - to + from) : other == 0 ? number(i) : 0);
+            int asItWas = other == 0 ? number(i) : 0;
+            due(name + ": number " + i, read(x, other, sort, i), isIn ? number(i - to + from) : asItWas);
         }
     }
 
