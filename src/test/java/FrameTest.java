@@ -26,6 +26,7 @@ final class FrameTest {
         withoutOrder();
         often();
         foundAnew();
+        askedAheadOfBack();
         apart();
         CHECK.close();
     }
@@ -380,6 +381,21 @@ final class FrameTest {
             CHECK.due("none is OUT", x.sendOut(1, 34, 2), 0);
             CHECK.due("none", x.outs(), 0);
         }
+    }
+
+    /** LOADS of THE IMAGE's LETTERS are others, so that two runs hold least by another number of ticks. */
+    private static void askedAheadOfBack() {
+        BufferRoom x = Rooms.with("a=1A;b=1B;c=1;0a>c3;0>b5;");
+        x.letter(0, 99);
+        x.letter(1, 0);
+        x.image();
+        x.letter(0, 0);
+        x.letter(1, 99);
+        CHECK.due("best by now", x.bestPhase(9), 8);
+        CHECK.due("holds then", x.pair(8), 99);
+        CHECK.due("back", x.back(), 0);
+        CHECK.due("best as it was", x.bestPhase(9), 3);
+        CHECK.due("holds then", x.pair(3), 100);
     }
 
     private static void heights(BufferRoom x, int... due) {
